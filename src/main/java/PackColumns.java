@@ -329,6 +329,11 @@ public final class PackColumns {
             return octet;
         }
 
+        private void takeRun(int count, Bytes to) {
+            to.addRun(from, place, count);
+            place += count;
+        }
+
         private int takeVarint() {
             int value = 0;
             for (int shift = 0; shift <= Varints.LAST_SHIFT; shift += 7) {
@@ -516,8 +521,7 @@ public final class PackColumns {
             if (count < 1 || count > from.left()) {
                 return false;
             }
-            to.addRun(from.from, from.place, count);
-            from.place += count;
+            from.takeRun(count, to);
             return true;
         }
 
