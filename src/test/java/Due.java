@@ -3,6 +3,7 @@ import java.util.concurrent.Callable;
 /** Counts and prints the answers that are not the ones that are due. */
 final class Due {
     private final String name;
+    private String sentence = "";
     private int asked = 0;
     private int wrong = 0;
 
@@ -10,11 +11,16 @@ final class Due {
         this.name = name;
     }
 
+    /** What comes is asked for by these words of the document; they are printed with a wrong answer. */
+    void sentence(String words) {
+        sentence = " [" + words + "]";
+    }
+
     void same(String what, Object got, Object want) {
         asked++;
         if (!got.equals(want)) {
             wrong++;
-            System.out.println(name + ": " + what + " answered " + got + ", due is " + want);
+            System.out.println(name + ": " + what + " answered " + got + ", due is " + want + sentence);
         }
     }
 
@@ -26,6 +32,10 @@ final class Due {
         } catch (Exception e) {
             return "throws " + e.getClass().getName();
         }
+    }
+
+    void answers(String what, Callable<?> call, Object want) {
+        same(what, answer(call), want);
     }
 
     void illegalArgument(String what, Callable<?> call) {

@@ -1,4 +1,5 @@
 import java.io.ByteArrayOutputStream;
+import java.nio.charset.StandardCharsets;
 import java.util.Arrays;
 import java.util.Random;
 import java.util.zip.CRC32;
@@ -41,6 +42,67 @@ final class Put {
         }
         made.write(rest);
         return made.toByteArray();
+    }
+
+    static byte[] varints(int... values) {
+        byte[] made = {};
+        for (int value : values) {
+            made = join(made, varint(value));
+        }
+        return made;
+    }
+
+    static byte[] utf8(int... characters) {
+        return new String(characters, 0, characters.length).getBytes(StandardCharsets.UTF_8);
+    }
+
+    /** Bytes below 64 and bytes from 64 to 95 in turn, which come again only 4096 back: pack can't point there. */
+    static byte[] stubborn(int count) {
+        byte[] made = new byte[count];
+        for (int k = 0; k < count; k++) {
+            int pair = k % 4096 / 2;
+            made[k] = (byte) (k % 2 == 0 ? pair % 64 : 64 + pair / 64);
+        }
+        return made;
+    }
+
+    /** The bytes packed with pointers as long and as far as they like, so that few calls make many bytes. */
+    static byte[] tight(byte[] bytes) {
+        ByteArrayOutputStream to = new ByteArrayOutputStream();
+        to.writeBytes(varint(bytes.length));
+        int plain = 0;
+        int place = 0;
+        while (place < bytes.length) {
+            int count = 0;
+            int distance = 0;
+            for (int d = 1; d <= place && place + count < bytes.length; d++) {
+                int same = countSame(bytes, place, d);
+                distance = same > count ? d : distance;
+                count = Math.max(count, same);
+            }
+            if (count < 4) {
+                place++;
+                continue;
+            }
+            to.writeBytes(plainPiece(bytes, plain, place));
+            to.writeBytes(varints(2 * count + 1, distance));
+            place += count;
+            plain = place;
+        }
+        to.writeBytes(plainPiece(bytes, plain, place));
+        return to.toByteArray();
+    }
+
+    private static int countSame(byte[] bytes, int place, int distance) {
+        int count = 0;
+        while (place + count < bytes.length && bytes[place + count] == bytes[place + count - distance]) {
+            count++;
+        }
+        return count;
+    }
+
+    private static byte[] plainPiece(byte[] bytes, int start, int end) {
+        return start == end ? bytes() : join(varint(2 * (end - start)), Arrays.copyOfRange(bytes, start, end));
     }
 
     /** Bytes without an order, the same ones each time. */
