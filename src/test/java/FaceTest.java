@@ -6,7 +6,7 @@ import java.util.Arrays;
 import java.util.Set;
 import java.util.TreeSet;
 
-/** The public face is the document's, to the letter, and nothing else can be seen of the class (LANGUAGE.md, rule 1). */
+/** The public face is the document's, to the letter, and nothing else can be seen (LANGUAGE.md, rule 1). */
 public final class FaceTest {
     private static final String[] FACE = {
         "int back() IllegalStateException",

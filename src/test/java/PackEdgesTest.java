@@ -15,6 +15,7 @@ public final class PackEdgesTest {
         distancesUpTo4095();
         longerButTooFar();
         greatestCount();
+        greatestCountOfMany();
         leastDistance();
         leastDistanceOf64();
         pointersIntoThemselves();
@@ -27,6 +28,8 @@ public final class PackEdgesTest {
         plainOver32768();
         pointerUpTo32768();
         pointerOver32768();
+        manyPiecesAtTheLimit();
+        farPointerAtTheLimit();
         plainBehindAPointer();
         fullTape();
         afterARefusal();
@@ -179,23 +182,41 @@ public final class PackEdgesTest {
     private static void greatestCount() {
         DUE.sentence("How bytes are packed: the greatest n, of these the least d (n goes first)");
         for (int far = 5; far <= 7; far++) {
-            byte[] start = Put.join(fresh(far), Put.bytes(1));
+            byte[] start = Put.join(Put.bytes(5, 6), fresh(far), Put.bytes(1));
             byte[] near = Put.join(fresh(far - 1), Put.bytes(2));
             byte[] tape = Put.join(start, near, fresh(far), Put.bytes(3));
             byte[] want = Put.join(Put.varints(tape.length, 2 * start.length), start);
-            want = Put.join(want, pointer(far - 1, start.length), Put.bytes(2, 2));
-            want = Put.join(want, pointer(far, start.length + near.length), Put.bytes(2, 3));
+            want = Put.join(want, pointer(far - 1, far + 1), Put.bytes(2, 2));
+            want = Put.join(want, pointer(far, far + 1 + near.length), Put.bytes(2, 3));
             packs(far + " far and " + (far - 1) + " near", tape, want);
         }
+    }
+
+    /** Ten bytes, then nine of them, .. four of them, and then ten again, which stand only in the farthest place. */
+    private static void greatestCountOfMany() {
+        DUE.sentence("How bytes are packed: the greatest n, of these the least d (of many)");
+        byte[] tape = Put.join(Put.bytes(20, 21), fresh(10), Put.bytes(11));
+        byte[] want = Put.join(Put.varint(2 * tape.length), tape);
+        int last = 10;
+        int all = 11;
+        for (int count = 9; count >= 4; count--) {
+            tape = Put.join(tape, fresh(count), Put.bytes(count));
+            want = Put.join(want, pointer(count, last + 1), Put.bytes(2, count));
+            last = count;
+            all += count + 1;
+        }
+        tape = Put.join(tape, fresh(10));
+        packs("the farthest of seven", tape, Put.join(Put.varint(tape.length), want, pointer(10, all)));
     }
 
     private static void leastDistance() {
         DUE.sentence("How bytes are packed: of these the least d");
         for (int count = 4; count <= 6; count++) {
-            byte[] four = fresh(count);
-            byte[] tape = Put.join(four, Put.bytes(1), four, Put.bytes(2), four, Put.bytes(3));
-            byte[] want = Put.join(Put.varints(3 * count + 3, 2 * count + 2), four, Put.bytes(1));
-            want = Put.join(want, pointer(count, count + 1), Put.bytes(2, 2), pointer(count, count + 1), Put.bytes(2, 3));
+            byte[] some = fresh(count);
+            byte[] tape = Put.join(some, Put.bytes(1), some, Put.bytes(2), some, Put.bytes(3));
+            byte[] want = Put.join(Put.varints(3 * count + 3, 2 * count + 2), some, Put.bytes(1));
+            byte[] nearest = pointer(count, count + 1);
+            want = Put.join(want, nearest, Put.bytes(2, 2), nearest, Put.bytes(2, 3));
             packs(count + " at two distances", tape, want);
         }
     }
@@ -301,7 +322,7 @@ public final class PackEdgesTest {
         DUE.sentence("pack: answers the length of out (32768 at most, a pointer being the last)");
         packs("a pointer to 32767", withPointer(32758, 4), withPointerPacked(32758, 4));
         packs("a pointer to 32768", withPointer(32759, 4), withPointerPacked(32759, 4));
-        packs("a pointer of 64 to 32768", withPointer(32703, 64), withPointerPacked(32703, 64));
+        packs("a full tape that ends with a pointer of 64", withPointer(32703, 64), withPointerPacked(32703, 64));
     }
 
     private static void pointerOver32768() {
@@ -312,16 +333,79 @@ public final class PackEdgesTest {
         refuses("a pointer to 32772", withPointer(32763, 4));
     }
 
-    private static void plainBehindAPointer() {
-        DUE.sentence("pack: IllegalStateException: out would be longer than 32768 (by the last plain piece)");
-        for (int stubborn = 32756; stubborn <= 32757; stubborn++) {
-            byte[] tape = Put.join(withPointer(stubborn, 4), Put.bytes(121));
-            byte[] packed = Put.join(withPointerPacked(stubborn, 4), Put.bytes(2, 121));
-            byte[] want = Put.join(Put.varint(tape.length), Arrays.copyOfRange(packed, 3, packed.length));
-            packs("a plain piece to " + want.length, tape, want);
+    /** Four bytes above 95 for each mark; no four in a row come again. */
+    private static byte[] marks(int count) {
+        byte[] made = Put.bytes();
+        for (int k = 0; k < count; k++) {
+            made = Put.join(made, mark(k));
         }
-        for (int stubborn = 32758; stubborn <= 32761; stubborn++) {
-            refuses("a plain piece to " + (stubborn + 11), Put.join(withPointer(stubborn, 4), Put.bytes(121)));
+        return made;
+    }
+
+    private static byte[] mark(int k) {
+        return Put.bytes(96 + k / 8, 104 + k % 8, 112 + k / 8, 120 + k % 8);
+    }
+
+    /**
+     * A full tape: marks; as many times 64 plain bytes and a mark again, which makes 69 bytes of 68; plain bytes; and
+     * 65 times the same byte, which makes four bytes of them. So 55 marks make just as many bytes as the tape has.
+     */
+    private static void manyPiecesAtTheLimit() {
+        DUE.sentence("pack: out would be longer than 32768 (many pieces, the last a pointer of 64)");
+        for (int marks = 54; marks <= 57; marks++) {
+            byte[] all = Put.stubborn(32768 - 65 - 1 - 8 * marks);
+            byte[] tape = Put.join(marks(marks), Put.bytes(120));
+            byte[] want = Put.join(Put.varints(32768, 2 * (tape.length + 64)), tape);
+            for (int k = 0; k < marks; k++) {
+                byte[] plain = Arrays.copyOfRange(all, 64 * k, 64 * k + 64);
+                byte[] head = k == 0 ? Put.bytes() : Put.varint(128);
+                tape = Put.join(tape, plain, mark(k));
+                want = Put.join(want, head, plain, pointer(4, 4 * marks + 1 + 64 * k + 64));
+            }
+            byte[] rest = Put.join(Arrays.copyOfRange(all, 64 * marks, all.length), Put.bytes(120));
+            tape = Put.join(tape, rest, Put.repeat(120, 64));
+            want = Put.join(want, Put.varint(2 * rest.length), rest, pointer(64, 1));
+            DUE.same("the length due of " + marks + " marks", want.length, 32768 + marks - 55);
+            if (marks <= 55) {
+                packs(marks + " marks", tape, want);
+            } else {
+                refuses(marks + " marks", tape);
+            }
+        }
+    }
+
+    /** Four bytes that stand 200 back, so that the distance takes two bytes: nine more than are plain. */
+    private static void farPointerAtTheLimit() {
+        DUE.sentence("pack: out would be longer than 32768 (by a pointer whose distance takes two bytes)");
+        for (int length = 32758; length <= 32761; length++) {
+            byte[] plain = Put.stubborn(length);
+            byte[] tape = Put.join(plain, Arrays.copyOfRange(plain, length - 200, length - 196));
+            byte[] want = Put.join(Put.varints(length + 4, 2 * length), plain, pointer(4, 200));
+            if (length <= 32759) {
+                packs("200 back behind " + length, tape, want);
+            } else {
+                refuses("200 back behind " + length, tape);
+            }
+        }
+    }
+
+    private static void plainBehindAPointer() {
+        DUE.sentence("pack: out would be longer than 32768 (by the last plain piece)");
+        int[] counts = {1, 2, 43, 63, 64, 65};
+        for (int count : counts) {
+            int most = 32768 - 9 - count - (count < 64 ? 1 : 2);
+            for (int stubborn = most - 1; stubborn <= most + 3; stubborn++) {
+                byte[] rest = head(marks(20), count);
+                byte[] tape = Put.join(withPointer(stubborn, 4), rest);
+                byte[] want = Put.join(Put.varints(tape.length, 2 * stubborn + 2), Put.stubborn(stubborn));
+                want = Put.join(want, Put.bytes(120), pointer(4, 1), Put.varint(2 * count), rest);
+                String what = count + " plain bytes to " + want.length;
+                if (stubborn <= most) {
+                    packs(what, tape, want);
+                } else {
+                    refuses(what, tape);
+                }
+            }
         }
     }
 

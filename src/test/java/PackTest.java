@@ -83,7 +83,7 @@ public final class PackTest {
     private static void farthestDistance() {
         byte[] mark = Put.bytes(1, 2, 3, 4);
         byte[] fits = Put.join(mark, even(4091), mark);
-        byte[] want = Put.join(Put.varint(4099), Put.varint(2 * 4095), mark, even(4091), Put.bytes(9), Put.varint(4095));
+        byte[] want = Put.join(Put.varints(4099, 2 * 4095), mark, even(4091), Put.varints(9, 4095));
         packedLong("4095 back", fits, want);
 
         byte[] over = Put.join(mark, even(4092), mark);

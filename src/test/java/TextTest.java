@@ -23,15 +23,11 @@ public final class TextTest {
         DUE.finish();
     }
 
-    private static byte[] utf8(int... characters) {
-        return new String(characters, 0, characters.length).getBytes(StandardCharsets.UTF_8);
-    }
-
     private static void letters() {
         PackColumns x = new PackColumns();
         int length = 0;
         for (int c : EDGES) {
-            byte[] want = utf8(c);
+            byte[] want = Put.utf8(c);
             DUE.same("letter(" + c + ")", x.letter(c), want.length);
             for (int k = 0; k < want.length; k++) {
                 DUE.same("letter(" + c + "): byte " + k, x.octet(length + k), want[k] & 255);
@@ -62,7 +58,7 @@ public final class TextTest {
             PackColumns fits = Put.withZerosOut(32768 - size);
             DUE.same("letter to the limit", Due.answer(() -> fits.letter(c)), size);
             DUE.same("letter to the limit: octet(-1)", fits.octet(-1), 32768);
-            DUE.same("letter to the limit: the last", fits.octet(32767), utf8(c)[size - 1] & 255);
+            DUE.same("letter to the limit: the last", fits.octet(32767), Put.utf8(c)[size - 1] & 255);
             PackColumns over = Put.withZerosOut(32769 - size);
             DUE.illegalState("letter one over", () -> over.letter(c));
             DUE.same("letter one over: out stays", over.octet(-1), 32769 - size);
@@ -75,7 +71,7 @@ public final class TextTest {
     private static void texts() {
         PackColumns empty = new PackColumns();
         DUE.same("an empty text", empty.text(), 0);
-        PackColumns x = Put.withTape(utf8(104, 228, 8364, 128512, 0));
+        PackColumns x = Put.withTape(Put.utf8(104, 228, 8364, 128512, 0));
         x.varint(5);
         DUE.same("text()", x.text(), 5);
         DUE.same("text(): code(0)", x.code(0), 104);
@@ -106,7 +102,7 @@ public final class TextTest {
     }
 
     private static void wrong(String what, int... tape) {
-        PackColumns x = Put.withTape(utf8(97, 8364));
+        PackColumns x = Put.withTape(Put.utf8(97, 8364));
         x.text();
         Put.tape(x, 0, Put.bytes(tape));
         DUE.illegalArgument(what, x::text);
@@ -150,7 +146,8 @@ public final class TextTest {
                 int[][] tapes = {{first, second}, {first, second, 128}, {first, second, 191, 128}};
                 for (int[] tape : tapes) {
                     PackColumns x = Put.withTape(tape);
-                    DUE.same("text of " + Put.text(Put.bytes(tape)), Due.answer(x::text), libraryCount(Put.bytes(tape)));
+                    byte[] bytes = Put.bytes(tape);
+                    DUE.answers("text of " + Put.text(bytes), x::text, libraryCount(bytes));
                 }
             }
         }

@@ -103,7 +103,7 @@ public final class UnpackTest {
         wrong("a plain piece of none alone", 1, 0);
         wrong("a plain piece cut off", 3, 6, 1, 2);
         wrong("a plain piece without bytes", 3, 6);
-        wrong("the greatest plain piece", Put.join(Put.bytes(3), Put.varint(Integer.MAX_VALUE - 1), Put.bytes(1, 2, 3)));
+        wrong("the greatest plain piece", Put.varints(3, Integer.MAX_VALUE - 1, 1, 2, 3));
     }
 
     private static void wrongPointers() {
